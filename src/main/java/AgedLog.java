@@ -205,11 +205,17 @@ public final class AgedLog {
     public int start() {
         drive.cutAt(0, 0);
         down = false;
-        return recovery.run();
+        recovery.takeCheckpoint();
+        int count = recovery.goThrough();
+        recovery.fillMemory();
+        return count;
     }
 
     public int disk(int segment, int i) {
-        return isOctet(segment, i) ? drive.number(segment * SEGMENT + i, 1) : NO_SUCH_THING;
+        if (!isOctet(segment, i)) {
+            return NO_SUCH_THING;
+        }
+        return Octets.number(drive.row, segment * SEGMENT + i, 1);
     }
 
     public int poke(int segment, int i, int mask) {
@@ -388,19 +394,15 @@ public final class AgedLog {
             octetsToCut = octets;
         }
 
-        int number(int at, int width) {
-            return Octets.number(row, at, width);
-        }
-
         int flip(int at, int mask) {
-            Octets.setNumber(row, at, 1, number(at, 1) ^ mask);
-            return number(at, 1);
+            Octets.setNumber(row, at, 1, Octets.number(row, at, 1) ^ mask);
+            return Octets.number(row, at, 1);
         }
 
         /** Whether the SUM of the octets there stands right behind them. */
         boolean hasSum(int at, int length) {
             return Octets.isWithin(row, at, length + 4)
-                && number(at + length, 4) == Octets.sum(row, at, length)
+                && Octets.number(row, at + length, 4) == Octets.sum(row, at, length)
                 && !isTorn(at, length);
         }
 
@@ -450,15 +452,16 @@ public final class AgedLog {
         }
 
         int segmentOf(int key) {
-            return has(key) ? segments[key] : 0;
+            return isKey(key) ? segments[key] : 0;
         }
 
         int placeOf(int key) {
-            return has(key) ? places[key] : 0;
+            return isKey(key) ? places[key] : 0;
         }
 
+        /** Where its octets begin in MEMORY; 0, where only 0s are, for a key without a value. */
         int addressOf(int key) {
-            return segmentOf(key) * SEGMENT + placeOf(key);
+            return isKey(key) ? segments[key] * SEGMENT + places[key] : 0;
         }
 
         /** Takes notice of a record of that kind and key. */
@@ -469,16 +472,16 @@ public final class AgedLog {
             if (segments[key] != 0) {
                 count--;
             }
-            segments[key] = 0;
-            if (kind == PUT) {
-                segments[key] = segment;
-                places[key] = place;
+            segments[key] = kind == PUT ? segment : 0;
+            places[key] = kind == PUT ? place : 0;
+            if (segments[key] != 0) {
                 count++;
             }
         }
 
         void clear() {
             Arrays.fill(segments, 0);
+            Arrays.fill(places, 0);
             count = 0;
         }
     }
@@ -943,7 +946,7 @@ public final class AgedLog {
         }
 
         private int numberAt(int region, int at, int width) {
-            return drive.number(region * REGION + at, width);
+            return Octets.number(drive.row, region * REGION + at, width);
         }
 
         private boolean isRight(int region) {
@@ -1053,8 +1056,7 @@ public final class AgedLog {
             this.regions = regions;
         }
 
-        /** How many records were gone through behind the checkpoint. */
-        int run() {
+        void takeCheckpoint() {
             log.setAsAtFirst();
             regions.setAsAtFirst();
             index.clear();
@@ -1063,10 +1065,6 @@ public final class AgedLog {
                 regions.load(region);
                 loadIndex(region);
             }
-            int count = goThrough();
-            log.loadMemory(drive);
-            readTimes();
-            return count;
         }
 
         private void loadIndex(int region) {
@@ -1095,7 +1093,8 @@ public final class AgedLog {
             return segment == log.open ? log.place : SEGMENT;
         }
 
-        private int goThrough() {
+        /** How many records count behind the checkpoint. */
+        int goThrough() {
             int count = 0;
             while (count < MOST_RECORDS && findNext()) {
                 followRecord();
@@ -1122,15 +1121,16 @@ public final class AgedLog {
         }
 
         private boolean isNext(int segment, int place) {
+            int address = segment * SEGMENT + place;
             return rightLength(segment, place) > 0
-                && drive.number(segment * SEGMENT + place + RECORD_SEQUENCE, 4) == log.nextSequence;
+                && Octets.number(drive.row, address + RECORD_SEQUENCE, 4) == log.nextSequence;
         }
 
         private boolean hasNextHead(int segment) {
             int address = segment * SEGMENT;
-            return drive.number(address, 1) == HEAD_FIRST
-                && drive.number(address + 1, 1) == HEAD_SECOND
-                && drive.number(address + HEAD_ORDER, 4) == log.order + 1
+            return Octets.number(drive.row, address, 1) == HEAD_FIRST
+                && Octets.number(drive.row, address + 1, 1) == HEAD_SECOND
+                && Octets.number(drive.row, address + HEAD_ORDER, 4) == log.order + 1
                 && drive.hasSum(address, HEAD_SUM);
         }
 
@@ -1143,7 +1143,8 @@ public final class AgedLog {
             log.place += RECORD_FRAME + valueLengthAt(log.open, log.place);
         }
 
-        private void readTimes() {
+        void fillMemory() {
+            log.loadMemory(drive);
             for (int segment = FIRST_OF_LOG; segment < SEGMENTS; segment++) {
                 log.forgetTimes(segment);
                 if (log.isUsed(segment)) {
@@ -1164,19 +1165,19 @@ public final class AgedLog {
         }
 
         private int kindAt(int segment, int place) {
-            return drive.number(segment * SEGMENT + place, 1);
+            return Octets.number(drive.row, segment * SEGMENT + place, 1);
         }
 
         private int keyAt(int segment, int place) {
-            return drive.number(segment * SEGMENT + place + RECORD_KEY, 2);
+            return Octets.number(drive.row, segment * SEGMENT + place + RECORD_KEY, 2);
         }
 
         private int valueLengthAt(int segment, int place) {
-            return drive.number(segment * SEGMENT + place + RECORD_LENGTH, 1);
+            return Octets.number(drive.row, segment * SEGMENT + place + RECORD_LENGTH, 1);
         }
 
         private int timeAt(int segment, int place) {
-            return drive.number(segment * SEGMENT + place + RECORD_TIME, 4);
+            return Octets.number(drive.row, segment * SEGMENT + place + RECORD_TIME, 4);
         }
 
         /** How many octets the record there has, 0 if none stands right, whatever its SEQUENCE. */
