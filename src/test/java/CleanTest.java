@@ -11,6 +11,7 @@ public final class CleanTest {
         sortsByTimeAndSequence();
         givesRecordsAgain();
         refusesWithoutRoom();
+        wantsNoneForWhatFits();
         ticks();
         Check.end();
     }
@@ -203,6 +204,29 @@ public final class CleanTest {
         Check.due("told(2)", x.told(2), 63);
         Check.due("checkpoint()", x.checkpoint(), 1);
         Check.due("told(4)", x.told(4), 18);
+    }
+
+    /** No segment is FREE, and 86 octets are left in the OPEN one. */
+    private static void wantsNoneForWhatFits() {
+        for (int length = 70; length <= 71; length++) {
+            AgedLog x = new AgedLog();
+            Check.put(x, 1, length);
+            Check.putMany(x, 0, length == 70 ? 16 : 15);
+            x.checkpoint();
+            for (int segment = 10; segment < 64; segment++) {
+                Check.setNumber(x, 0, 33 + segment - 8, 1, 1);
+            }
+            Check.setSum(x, 0, 0, 89);
+            x.start();
+            Check.due("told(4)", x.told(4), 0);
+            Check.due("told(3)", x.told(3), 938);
+            for (int i = 0; i < 9; i++) {
+                Check.due("clean(6) of empty ones", x.clean(6), 6);
+            }
+            Check.due("clean(1) of " + length + " octets", x.clean(1), length == 70 ? 1 : -4);
+            Check.due("where(1, 0)", x.where(1, 0), length == 70 ? 9 : 8);
+            Check.due("told(3)", x.told(3), length == 70 ? 1024 : 938);
+        }
     }
 
     private static void ticks() {
