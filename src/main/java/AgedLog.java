@@ -448,7 +448,7 @@ public final class AgedLog {
         private int count = 0;
 
         boolean has(int key) {
-            return isKey(key) && segments[key] != 0;
+            return isKey(key) && isOfLog(segments[key]);
         }
 
         int segmentOf(int key) {
@@ -664,6 +664,9 @@ public final class AgedLog {
 
         /** So many octets came at the PLACE. */
         private void noteFresh(int length) {
+            if (!isOfLog(open)) {
+                return;
+            }
             boolean known = freshCount > 0 && fresh[freshCount - 1] == open;
             if (!known && freshCount < SEGMENTS) {
                 fresh[freshCount] = open;

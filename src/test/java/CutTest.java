@@ -3,35 +3,112 @@ public final class CutTest {
     public static void main(String[] args) {
         refuses();
         goesAtTheSector();
+        goesAtTheThousandthSector();
+        writesTheFirstOctets();
+        keepsWhatCameBefore();
         stays();
         tornOctetsMakeNoSumRight();
         ownOctetsOfTheSumMayBeTorn();
         whatStoodBeforeIsNotTorn();
+        tornFromTheCutOn();
+        firstOctetOfASectorIsTorn();
+        anotherSectorMendsNothing();
         aLaterCutMendsNothing();
         sectorOfZerosIsTorn();
         headIsTorn();
         regionIsTorn();
+        firstOctetOfARegionsSectorIsTorn();
         Check.end();
     }
 
+    /** "-2 n is not 0 .. 10000, or t not 0 .. 63" */
     private static void refuses() {
-        AgedLog x = new AgedLog();
-        Check.due("cut(-1, 0)", x.cut(-1, 0), -2);
-        Check.due("cut(10001, 0)", x.cut(10001, 0), -2);
-        Check.due("cut(0, -1)", x.cut(0, -1), -2);
-        Check.due("cut(0, 64)", x.cut(0, 64), -2);
+        Run x = new Run();
+        int[] wrongSectors = {-1, 10001, Integer.MIN_VALUE, Integer.MAX_VALUE};
+        for (int n : wrongSectors) {
+            Check.due("cut(" + n + ", 0)", x.cut(n, 0), -2);
+            Check.due("cut(" + n + ", 64)", x.cut(n, 64), -2);
+        }
+        int[] wrongOctets = {-1, 64, Integer.MIN_VALUE, Integer.MAX_VALUE};
+        for (int t : wrongOctets) {
+            Check.due("cut(0, " + t + ")", x.cut(0, t), -2);
+            Check.due("cut(1, " + t + ")", x.cut(1, t), -2);
+        }
         Check.due("cut(10000, 63)", x.cut(10000, 63), 1);
+        Check.due("cut(10000, 0)", x.cut(10000, 0), 1);
+        x.put(1);
+        Check.due("sync(): the 10000th is far", x.sync(), 1);
+        Check.due("cut(0, 63)", x.cut(0, 63), 1);
         Check.due("cut(0, 0)", x.cut(0, 0), 1);
         Check.due("cut(1, 0)", x.cut(1, 0), 1);
         Check.due("cut(2, 64) changes nothing", x.cut(2, 64), -2);
+        Check.due("cut(0, -1) changes nothing", x.cut(0, -1), -2);
         x.put(1);
         Check.due("sync()", x.sync(), -5);
         Check.due("cut(1, 0) when down", x.cut(1, 0), -3);
+        Check.due("cut(0, 0) when down", x.cut(0, 0), -3);
         Check.due("cut(-1, 0) when down", x.cut(-1, 0), -3);
+        Check.due("cut(0, 64) when down", x.cut(0, 64), -3);
+    }
+
+    /** SECTORS of all calls are counted: 21 for each checkpoint of 250 keys. */
+    private static void goesAtTheThousandthSector() {
+        Run x = new Run();
+        for (int key = 0; key < 250; key++) {
+            x.put(key);
+        }
+        x.sync();
+        int before = x.told(8);
+        x.cut(1000, 0);
+        for (int number = 1; number <= 47; number++) {
+            Check.due("checkpoint()", x.checkpoint(), number);
+        }
+        Check.due("checkpoint() with the 1000th in it", x.checkpoint(), -5);
+        Check.due("told(8)", x.told(8) - before, 999);
+        Check.due("start()", x.start(), 0);
+        Check.due("told(7)", x.told(7), 47);
+    }
+
+    /** "of it the first t octets are new, the others stay as they were", with t from 0 to 63. */
+    private static void writesTheFirstOctets() {
+        Run whole = new Run();
+        Check.put(whole, 5, 40);
+        whole.sync();
+        for (int t = 0; t < 64; t++) {
+            Run x = new Run();
+            for (int i = 0; i < 64; i++) {
+                x.poke(8, i, whole.disk(8, i) ^ 170);
+            }
+            Check.put(x, 5, 40);
+            x.cut(1, t);
+            Check.due("sync()", x.sync(), -5);
+            for (int i = 0; i < 64; i++) {
+                int due = i < t ? whole.disk(8, i) : whole.disk(8, i) ^ 170;
+                Check.due("disk(8, " + i + ") with " + t, x.disk(8, i), due);
+            }
+            Check.due("disk(8, 64)", x.disk(8, 64), 0);
+        }
+    }
+
+    /** Of one SYNC the SECTORS before that at which power went are written, and count. */
+    private static void keepsWhatCameBefore() {
+        Run x = new Run();
+        Check.put(x, 1, 30);
+        Check.put(x, 2, 100);
+        Check.put(x, 3, 0);
+        x.cut(2, 30);
+        Check.due("sync()", x.sync(), -5);
+        Check.due("told(8)", x.told(8), 1);
+        Check.due("start()", x.start(), 1);
+        Check.due("size(1)", x.size(1), 30);
+        Check.due("size(2): MEMORY is lost", x.size(2), -1);
+        Check.due("size(3)", x.size(3), -1);
+        Check.due("told(0)", x.told(0), 2);
+        Check.due("told(3)", x.told(3), 56);
     }
 
     private static void goesAtTheSector() {
-        AgedLog x = new AgedLog();
+        Run x = new Run();
         x.cut(4, 7);
         Check.put(x, 1, 100);
         Check.due("sync() of two", x.sync(), 2);
@@ -51,7 +128,7 @@ public final class CutTest {
     }
 
     private static void oldOctetsStay() {
-        AgedLog x = new AgedLog();
+        Run x = new Run();
         for (int i = 0; i < 64; i++) {
             x.poke(8, i, 200);
         }
@@ -64,7 +141,7 @@ public final class CutTest {
     }
 
     private static void stays() {
-        AgedLog x = new AgedLog();
+        Run x = new Run();
         x.cut(1, 0);
         x.cut(0, 0);
         x.put(1);
@@ -82,8 +159,8 @@ public final class CutTest {
     }
 
     /** Makes octets of segment 8 what they would be if key 5 had been put there alone. */
-    private static void mend(AgedLog x) {
-        AgedLog whole = new AgedLog();
+    private static void mend(Run x) {
+        Run whole = new Run();
         Check.put(whole, 5, 3);
         whole.sync();
         for (int i = 0; i < 64; i++) {
@@ -91,8 +168,8 @@ public final class CutTest {
         }
     }
 
-    private static AgedLog cutInFirstRecord(int t) {
-        AgedLog x = new AgedLog();
+    private static Run cutInFirstRecord(int t) {
+        Run x = new Run();
         Check.put(x, 5, 3);
         x.cut(1, t);
         Check.due("sync()", x.sync(), -5);
@@ -101,7 +178,7 @@ public final class CutTest {
 
     private static void tornOctetsMakeNoSumRight() {
         for (int t = 10; t < 25; t++) {
-            AgedLog x = cutInFirstRecord(t);
+            Run x = cutInFirstRecord(t);
             mend(x);
             Check.due("start() with " + t + " octets", x.start(), 0);
         }
@@ -112,7 +189,7 @@ public final class CutTest {
 
     private static void ownOctetsOfTheSumMayBeTorn() {
         for (int t = 25; t < 29; t++) {
-            AgedLog x = cutInFirstRecord(t);
+            Run x = cutInFirstRecord(t);
             Check.due("start() with " + t + " octets", x.start(), 0);
             mend(x);
             Check.due("start() when the SUM is mended", x.start(), 1);
@@ -120,7 +197,7 @@ public final class CutTest {
     }
 
     private static void whatStoodBeforeIsNotTorn() {
-        AgedLog x = new AgedLog();
+        Run x = new Run();
         Check.put(x, 5, 3);
         x.sync();
         x.put(6);
@@ -135,8 +212,75 @@ public final class CutTest {
         Check.due("start(): to the SECTOR's end", x.start(), 1);
     }
 
+    /** The record that came is at 29 .. 44, its SUM at 41 .. 44: TORN are those from t on. */
+    private static void tornFromTheCutOn() {
+        for (int t = 28; t <= 45; t++) {
+            Run x = new Run();
+            Check.put(x, 5, 3);
+            x.sync();
+            x.put(6);
+            x.cut(1, t);
+            Check.due("sync()", x.sync(), -5);
+            Check.due("start() with " + t, x.start(), t == 45 ? 2 : 1);
+            Check.forgeRecord(x, 8, 29, new int[] {1, 6, 0, 2, 0});
+            Check.due("start() when it is mended", x.start(), t > 40 ? 2 : 1);
+            Check.due("size(5)", x.size(5), 3);
+        }
+    }
+
+    /** A record at 45 .. 68, whose SUM is that of octets up to 64: the first of the second SECTOR. */
+    private static void firstOctetOfASectorIsTorn() {
+        for (int t = 0; t <= 1; t++) {
+            Run x = new Run();
+            Check.put(x, 1, 19);
+            Check.put(x, 2, 8);
+            x.cut(2, t);
+            Check.due("sync()", x.sync(), -5);
+            Check.forgeRecord(x, 8, 45, new int[] {1, 2, 8, 2, 0});
+            Check.due("start() with " + t + " octets of the SECTOR", x.start(), 1 + t);
+            Run y = new Run();
+            Check.put(y, 1, 38);
+            y.cut(1, t);
+            Check.due("sync() with a SECTOR of 0s", y.sync(), -5);
+            Check.forgeHead(y, 8, 1);
+            Check.forgeRecord(y, 8, 10, new int[] {1, 1, 19, 1, 0});
+            Check.forgeRecord(y, 8, 45, new int[] {1, 2, 8, 2, 0});
+            Check.due("start() with " + t + " octets of the 0s", y.start(), 1 + t);
+        }
+    }
+
+    /** "they are till that SECTOR is written whole": that one, and not the next one. */
+    private static void anotherSectorMendsNothing() {
+        Run x = new Run();
+        Check.put(x, 5, 37);
+        x.sync();
+        Check.put(x, 6, 1);
+        x.cut(1, 0);
+        Check.due("sync() of 63 .. 79", x.sync(), -5);
+        Check.due("start()", x.start(), 1);
+        Check.forgeRecord(x, 8, 63, new int[] {1, 6, 1, 2, 0});
+        Check.due("start(): octet 63 is TORN", x.start(), 1);
+        Run y = new Run();
+        Check.put(y, 5, 38);
+        y.sync();
+        Check.put(y, 6, 1);
+        y.cut(1, 0);
+        Check.due("sync() of 64 .. 80", y.sync(), -5);
+        Check.forgeRecord(y, 8, 64, new int[] {1, 6, 1, 2, 0});
+        Check.due("start(): octet 64 is TORN", y.start(), 1);
+        Check.due("checkpoint(): SECTORS of a REGION", y.checkpoint(), 1);
+        Check.due("start(): octet 64 is TORN still", y.start(), 0);
+        Check.put(y, 6, 60);
+        y.cut(2, 63);
+        Check.due("sync() of 64 .. 139", y.sync(), -5);
+        Check.due("disk(8, 128)", y.disk(8, 128), 53);
+        Check.forgeRecord(y, 8, 64, new int[] {1, 6, 1, 2, 0});
+        Check.due("start(): its SECTOR was written whole", y.start(), 1);
+        Check.due("size(6)", y.size(6), 1);
+    }
+
     private static void aLaterCutMendsNothing() {
-        AgedLog x = cutInFirstRecord(20);
+        Run x = cutInFirstRecord(20);
         x.start();
         Check.put(x, 5, 3);
         x.cut(1, 60);
@@ -158,7 +302,7 @@ public final class CutTest {
     }
 
     private static void sectorOfZerosIsTorn() {
-        AgedLog x = new AgedLog();
+        Run x = new Run();
         Check.put(x, 1, 38);
         x.cut(1, 10);
         x.poke(8, 70, 9);
@@ -171,7 +315,7 @@ public final class CutTest {
         Check.forgeRecord(x, 8, 10, new int[] {1, 1, 38, 1, 0});
         Check.forgeRecord(x, 8, 64, new int[] {1, 2, 0, 2, 0});
         Check.due("start(): the second is TORN from its tenth octet on", x.start(), 1);
-        AgedLog y = new AgedLog();
+        Run y = new Run();
         Check.put(y, 1, 38);
         y.cut(1, 12);
         y.sync();
@@ -182,7 +326,7 @@ public final class CutTest {
     }
 
     private static void headIsTorn() {
-        AgedLog x = new AgedLog();
+        Run x = new Run();
         Check.putMany(x, 1, 8);
         x.sync();
         Check.put(x, 2, 60);
@@ -198,7 +342,7 @@ public final class CutTest {
         Check.forgeHead(x, 9, 2);
         Check.forgeRecord(x, 9, 10, new int[] {1, 2, 4, 9, 0});
         Check.due("start(): nothing of it is TORN", x.start(), 9);
-        AgedLog y = new AgedLog();
+        Run y = new Run();
         Check.put(y, 1, 0);
         y.cut(1, 3);
         y.sync();
@@ -207,11 +351,11 @@ public final class CutTest {
     }
 
     private static void regionIsTorn() {
-        AgedLog whole = new AgedLog();
+        Run whole = new Run();
         whole.put(1);
         whole.checkpoint();
         for (int t = 0; t < 64; t += 7) {
-            AgedLog x = new AgedLog();
+            Run x = new Run();
             x.put(1);
             x.sync();
             x.cut(2, t);
@@ -222,6 +366,32 @@ public final class CutTest {
             x.start();
             // 84 octets are summed: 20 of them in the second SECTOR.
             Check.due("told(7) with " + t + " octets", x.told(7), t < 20 ? 0 : 1);
+        }
+    }
+
+    /** With 10 keys the SUM is that of octets up to 128, the first of the third SECTOR. */
+    private static void firstOctetOfARegionsSectorIsTorn() {
+        Run whole = new Run();
+        for (int key = 0; key < 10; key++) {
+            whole.put(key);
+        }
+        whole.checkpoint();
+        for (int t = 0; t <= 1; t++) {
+            Run x = new Run();
+            for (int key = 0; key < 10; key++) {
+                x.put(key);
+            }
+            x.sync();
+            x.cut(3, t);
+            Check.due("checkpoint()", x.checkpoint(), -5);
+            for (int i = 128; i < 192; i++) {
+                int mask = x.disk(0, i) ^ whole.disk(0, i);
+                if (mask != 0) {
+                    x.poke(0, i, mask);
+                }
+            }
+            x.start();
+            Check.due("told(7) with " + t + " octets", x.told(7), t);
         }
     }
 }

@@ -1,7 +1,7 @@
 /** Promises 13 and 14: disk and poke. */
 public final class DiskTest {
     public static void main(String[] args) {
-        AgedLog x = new AgedLog();
+        Run x = new Run();
         int[][] none = {{-1, 0}, {64, 0}, {0, -1}, {0, 1024}, {63, 1024},
             {Integer.MIN_VALUE, 0}, {Integer.MAX_VALUE, 0}, {0, Integer.MIN_VALUE}, {0, Integer.MAX_VALUE}};
         for (int[] at : none) {
@@ -9,14 +9,17 @@ public final class DiskTest {
             Check.due("disk(" + where + ")", x.disk(at[0], at[1]), -1);
             Check.due("poke(" + where + ", 1)", x.poke(at[0], at[1], 1), -1);
             Check.due("poke(" + where + ", 256)", x.poke(at[0], at[1], 256), -1);
+            Check.due("poke(" + where + ", -1)", x.poke(at[0], at[1], -1), -1);
         }
-        int[][] some = {{0, 0}, {0, 1023}, {7, 5}, {8, 0}, {63, 1023}};
+        int[][] some = {{0, 0}, {0, 1023}, {7, 5}, {8, 0}, {63, 0}, {63, 1023}};
         for (int[] at : some) {
             Check.due("poke to 165", x.poke(at[0], at[1], 0xA5), 0xA5);
             Check.due("poke to 255", x.poke(at[0], at[1], 0x5A), 255);
             Check.due("poke of 0", x.poke(at[0], at[1], 0), 255);
-            Check.due("poke(_, _, 256)", x.poke(at[0], at[1], 256), -2);
-            Check.due("poke(_, _, -1)", x.poke(at[0], at[1], -1), -2);
+            int[] wrong = {256, -1, 511, Integer.MIN_VALUE, Integer.MAX_VALUE};
+            for (int mask : wrong) {
+                Check.due("poke(_, _, " + mask + ")", x.poke(at[0], at[1], mask), -2);
+            }
             Check.due("disk", x.disk(at[0], at[1]), 255);
             Check.due("poke of 255", x.poke(at[0], at[1], 255), 0);
         }
@@ -26,7 +29,7 @@ public final class DiskTest {
     }
 
     private static void whenDown() {
-        AgedLog x = new AgedLog();
+        Run x = new Run();
         x.put(1);
         x.cut(1, 1);
         x.sync();
@@ -37,7 +40,7 @@ public final class DiskTest {
     }
 
     private static void seenAtStartOnly() {
-        AgedLog x = new AgedLog();
+        Run x = new Run();
         x.feed(7, 1);
         x.put(1);
         x.sync();

@@ -3,6 +3,7 @@ import java.util.Random;
 /** Runs of calls drawn from seeds, on the class and on the model of the document. */
 public final class ModelTest {
     private static final int RUNS = 1200;
+    private static final int HELD_BACK = 110;
 
     private final Both both = new Both();
     private final Random random;
@@ -24,7 +25,7 @@ public final class ModelTest {
         int[] refusals = new int[6];
         for (int seed = 1; seed <= RUNS; seed++) {
             ModelTest test = new ModelTest(seed);
-            boolean right = test.run(seed % 40 == 0 ? 4000 : 250);
+            boolean right = test.run();
             for (int i = 0; i < refusals.length; i++) {
                 refusals[i] += test.both.refusals[i];
             }
@@ -42,16 +43,17 @@ public final class ModelTest {
             }
         }
         System.out.println(RUNS + " runs agree with the model");
+        Check.end();
     }
 
-    private boolean run(int steps) {
-        for (int i = 0; i < steps && both.wrong == 0; i++) {
+    /** Each step makes fewer calls than are held back, so that no run goes beyond the 512th call. */
+    private boolean run() {
+        int nextLook = random.nextInt(200);
+        while (both.program.left() > HELD_BACK && both.wrong == 0) {
             step();
-            if (i % 25 == 24) {
+            if (Run.MOST_CALLS - both.program.left() > nextLook) {
                 both.compareAll();
-            }
-            if (i % 100 == 99) {
-                both.compareDisk();
+                nextLook += 100 + random.nextInt(200);
             }
         }
         both.start();

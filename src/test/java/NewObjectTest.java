@@ -1,7 +1,7 @@
 /** Promise 1: an empty disk, an empty store. */
 public final class NewObjectTest {
     public static void main(String[] args) {
-        AgedLog x = new AgedLog();
+        Run x = new Run();
         int[] told = {1, 0, 0, 0, 56, 0, 0, 0, 0, 0};
         for (int what = 0; what < told.length; what++) {
             Check.due("told(" + what + ")", x.told(what), told[what]);
@@ -26,11 +26,11 @@ public final class NewObjectTest {
     }
 
     private static void twoObjectsShareNothing() {
-        AgedLog x = new AgedLog();
+        Run x = new Run();
         x.feed(7, 1);
         x.put(3);
         x.sync();
-        AgedLog y = new AgedLog();
+        Run y = new Run();
         Check.due("size(3) of another", y.size(3), -1);
         Check.due("disk(8, 0) of another", y.disk(8, 0), 0);
         Check.due("told(8) of another", y.told(8), 0);

@@ -2,20 +2,21 @@
 public final class TellTest {
     public static void main(String[] args) {
         segments();
+        countsTheFirstAndTheLastKey();
         keys();
         tells();
         whenDown();
         Check.end();
     }
 
-    private static void segmentIs(AgedLog x, int segment, int... due) {
+    private static void segmentIs(Run x, int segment, int... due) {
         for (int what = 0; what < 4; what++) {
             Check.due("segment(" + segment + ", " + what + ")", x.segment(segment, what), due[what]);
         }
     }
 
     private static void segments() {
-        AgedLog x = new AgedLog();
+        Run x = new Run();
         int[] none = {-1, 0, 7, 64, Integer.MIN_VALUE, Integer.MAX_VALUE};
         for (int segment : none) {
             Check.due("segment(" + segment + ", 0)", x.segment(segment, 0), -1);
@@ -46,8 +47,27 @@ public final class TellTest {
         segmentIs(x, 8, 2, 116, 8, 3);
     }
 
+    /** "how much lives in a segment are the octets of the LIVE records in it": of KEYS 0 .. 299. */
+    private static void countsTheFirstAndTheLastKey() {
+        Run x = new Run();
+        Check.put(x, 0, 1);
+        Check.due("segment(8, 1)", x.segment(8, 1), 17);
+        Check.put(x, 299, 100);
+        Check.due("segment(8, 1)", x.segment(8, 1), 133);
+        x.remove(0);
+        Check.due("segment(8, 1)", x.segment(8, 1), 116);
+        x.put(299);
+        Check.due("segment(8, 1)", x.segment(8, 1), 16);
+        x.remove(299);
+        Check.due("segment(8, 1)", x.segment(8, 1), 0);
+        for (int key = 0; key < 299; key += 298) {
+            x.put(key + 1);
+        }
+        Check.due("segment(8, 1)", x.segment(8, 1), 32);
+    }
+
     private static void keys() {
-        AgedLog x = new AgedLog();
+        Run x = new Run();
         x.tick(4);
         Check.put(x, 299, 2);
         x.tick(5);
@@ -69,14 +89,14 @@ public final class TellTest {
         Check.due("where(0, 2) behind remove(0)", x.where(0, 2), -1);
     }
 
-    private static void toldIs(AgedLog x, int... due) {
+    private static void toldIs(Run x, int... due) {
         for (int what = 0; what < due.length; what++) {
             Check.due("told(" + what + ")", x.told(what), due[what]);
         }
     }
 
     private static void tells() {
-        AgedLog x = new AgedLog();
+        Run x = new Run();
         Check.due("told(-1)", x.told(-1), -2);
         Check.due("told(10)", x.told(10), -2);
         x.tick(9);
@@ -97,7 +117,7 @@ public final class TellTest {
     }
 
     private static void whenDown() {
-        AgedLog x = new AgedLog();
+        Run x = new Run();
         x.tick(9);
         Check.put(x, 1, 4);
         x.checkpoint();

@@ -637,6 +637,10 @@ final class Model {
         return c;
     }
 
+    boolean isClear(int segment) {
+        return Arrays.stream(disk[segment]).allMatch(octet -> octet == 0);
+    }
+
     int disk(int segment, int i) {
         return segment < 0 || segment > 63 || i < 0 || i > 1023 ? -1 : disk[segment][i];
     }
