@@ -16,6 +16,9 @@ public final class CleanTest {
         isOldWithoutARecord();
         countsRemovedRecordsForTheAge();
         weighsLifeAgainstAge();
+        weighsExactly();
+        forgetsTheTimesOfBefore();
+        spendsAllOrNone();
         takesTheLeastNumberOfTheSameWorth();
         weighsTheFirstAndTheLastKey();
         neverTakesTheOpenOne();
@@ -385,9 +388,79 @@ public final class CleanTest {
         x = halfAlive(3);
         x.clean(1);
         isSpent("4 / 3 is more than 1", x, 8);
-        x = halfAlive(5000000);
-        x.clean(1);
-        isSpent("512 * 5000001 is beyond 32 bits", x, 8);
+        int[] many = {100000, 1500000, 2000000, 2500000, 3000000, 4200000, 5000000, 9000000, 20000000};
+        for (int ticks : many) {
+            x = halfAlive(ticks);
+            x.clean(1);
+            isSpent("what is beyond 32 bits is not cut off, with " + ticks, x, 8);
+        }
+    }
+
+    /** The WORTH of 9 is 10000000, and that of 8 is a third less, the same, or a third more. */
+    private static void weighsExactly() {
+        for (int third = -1; third <= 1; third++) {
+            Run x = halfAlive(20000000 + third);
+            for (int i = 0; i < 100; i++) {
+                x.tick(i == 0 ? 99999 : 100000);
+            }
+            Check.due("told(1) and 1 less the TIME of 9", x.told(1) + 1 - x.segment(9, 2), 10000000);
+            Check.due("told(1) and 1 less the TIME of 8", x.told(1) + 1 - x.segment(8, 2), 30000000 + third);
+            x.clean(1);
+            isSpent(third + " thirds more", x, third < 0 ? 9 : 8);
+        }
+    }
+
+    /** A segment that is USED again knows nothing of its records before. */
+    private static void forgetsTheTimesOfBefore() {
+        Run x = new Run();
+        Check.fillTo(x, 0, 1018);
+        for (int key = 100; key < 162; key++) {
+            x.put(key);
+        }
+        x.put(0);
+        x.tick(50);
+        for (int i = 0; i < 64; i++) {
+            x.put(0);
+        }
+        Check.due("segment(10, 2)", x.segment(10, 2), 50);
+        Check.due("clean(2)", x.clean(2), 2);
+        isSpent("32 * 51 / 2016 is less than 1", x, 8, 10);
+        x.checkpoint();
+        Check.fillTo(x, 0, 1018);
+        x.put(0);
+        Check.due("told(2)", x.told(2), 8);
+        Check.fillTo(x, 0, 1018);
+        Check.due("clean(2)", x.clean(2), 2);
+        Check.due("told(2): what lived in 9 came to 10", x.told(2), 10);
+        Check.due("segment(10, 2): TIME 0 only", x.segment(10, 2), 0);
+        Check.due("segment(10, 1)", x.segment(10, 1), 62 * 16);
+        Check.due("segment(8, 2)", x.segment(8, 2), 50);
+    }
+
+    /** Nothing is done: not even those are SPENT in which nothing lives. */
+    private static void spendsAllOrNone() {
+        Run x = new Run();
+        for (int key = 0; key < 64; key++) {
+            x.put(key);
+        }
+        x.checkpoint();
+        int flags = 23 + 5 * 64;
+        for (int segment = 10; segment < 64; segment++) {
+            Check.setNumber(x, 0, flags + segment - 8, 1, 1);
+        }
+        Check.setSum(x, 0, 0, flags + 56);
+        x.start();
+        Check.due("told(4)", x.told(4), 0);
+        for (int i = 0; i < 6; i++) {
+            Check.due("clean(8) of empty ones", x.clean(8), 8);
+        }
+        Check.due("clean(3) of empty ones", x.clean(3), 3);
+        String before = Check.snapshot(x);
+        Check.due("clean(8) of three empty ones and a full one", x.clean(8), -4);
+        Check.due("clean(4)", x.clean(4), -4);
+        Check.isTrue("nothing is done", before.equals(Check.snapshot(x)));
+        Check.due("clean(3)", x.clean(3), 3);
+        Check.due("clean(1)", x.clean(1), -4);
     }
 
     /** The segment of the less number is the younger one here, with nothing that lives. */

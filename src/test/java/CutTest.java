@@ -16,6 +16,7 @@ public final class CutTest {
         aLaterCutMendsNothing();
         sectorOfZerosIsTorn();
         headIsTorn();
+        tornRecordsAreNoneOfASegment();
         regionIsTorn();
         firstOctetOfARegionsSectorIsTorn();
         Check.end();
@@ -291,9 +292,13 @@ public final class CutTest {
         Check.due("sync()", x.sync(), 1);
         Check.due("start(): written whole", x.start(), 1);
         x.put(6);
-        x.cut(1, 50);
+        x.cut(1, 60);
         x.sync();
-        Check.due("start(): TORN from 50 on", x.start(), 2);
+        Check.due("start(): TORN from 60 on", x.start(), 2);
+        Check.forgeRecord(x, 8, 45, new int[] {1, 7, 0, 3, 0});
+        Check.due("start(): only the SUM's last octet is TORN", x.start(), 3);
+        x.poke(8, 45, 1);
+        x.start();
         x.put(7);
         x.cut(1, 46);
         x.sync();
@@ -392,6 +397,34 @@ public final class CutTest {
             }
             x.start();
             Check.due("told(7) with " + t + " octets", x.told(7), t);
+        }
+    }
+
+    /** No TORN record is one of a checkpoint's, or of those that a USED segment has. */
+    private static void tornRecordsAreNoneOfASegment() {
+        for (int t = 40; t <= 41; t++) {
+            Run x = new Run();
+            Check.put(x, 5, 3);
+            x.checkpoint();
+            x.tick(7);
+            x.put(6);
+            x.cut(1, t);
+            Check.due("sync()", x.sync(), -5);
+            // The record of 29 .. 44 is mended, and 9 is the OPEN segment: 8 is USED only.
+            Check.forgeRecord(x, 8, 29, new int[] {1, 6, 0, 2, 7});
+            Check.setNumber(x, 0, 14, 1, 9);
+            Check.setNumber(x, 0, 15, 2, 10);
+            Check.setSum(x, 0, 0, 84);
+            Check.due("start()", x.start(), 0);
+            Check.due("segment(8, 0)", x.segment(8, 0), 1);
+            Check.due("segment(8, 2) with " + t, x.segment(8, 2), t == 40 ? 0 : 7);
+            // The only key of the checkpoint is 6 now, and its record there.
+            Check.setNumber(x, 0, 23, 2, 6);
+            Check.setNumber(x, 0, 26, 2, 29);
+            Check.setSum(x, 0, 0, 84);
+            x.start();
+            Check.due("told(7)", x.told(7), 1);
+            Check.due("size(6) with " + t, x.size(6), t == 40 ? -1 : 0);
         }
     }
 }

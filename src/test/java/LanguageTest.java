@@ -21,6 +21,7 @@ public final class LanguageTest {
         List<String> lines = Files.readAllLines(PROGRAM);
         wordsThatAreRuledOut(withoutComments(String.join("\n", lines)));
         methodsAreShort(lines);
+        callsMakeNoObjects(lines);
         Check.end();
     }
 
@@ -62,19 +63,37 @@ public final class LanguageTest {
         isTrue("at most twelve classes", inner.length < 12);
         for (Class<?> type : inner) {
             isTrue(type + " is static", Modifier.isStatic(type.getModifiers()));
+            isTrue(type + " is not public", (type.getModifiers() & (Modifier.PUBLIC | Modifier.PROTECTED)) == 0);
             for (Method method : type.getDeclaredMethods()) {
                 isTrue(method + " bears no public name", !face.contains(method.getName()));
                 isTrue(method + " takes at most seven", method.getParameterCount() <= 7);
             }
-            int fields = 0;
-            for (Field field : type.getDeclaredFields()) {
-                if (Modifier.isStatic(field.getModifiers())) {
-                    isTrue(field + " is final", Modifier.isFinal(field.getModifiers()));
-                } else {
-                    fields++;
-                }
+            fieldsAreFewAndConstantsConstant(type);
+        }
+        fieldsAreFewAndConstantsConstant(AgedLog.class);
+    }
+
+    private static void fieldsAreFewAndConstantsConstant(Class<?> type) {
+        int fields = 0;
+        for (Field field : type.getDeclaredFields()) {
+            if (Modifier.isStatic(field.getModifiers())) {
+                isTrue(field + " is final", Modifier.isFinal(field.getModifiers()));
+                isTrue(field + " is a number", field.getType() == int.class || field.getType() == long.class);
+            } else {
+                fields++;
             }
-            isTrue(type + " has at most twenty fields", fields <= 20);
+        }
+        isTrue(type + " has at most twenty fields", fields <= 20);
+    }
+
+    /** All rows are made with the object, so that no run of calls can fill the room. */
+    private static void callsMakeNoObjects(List<String> lines) {
+        for (String line : lines) {
+            if (withoutComments(line).matches(".*\\bnew\\b.*")) {
+                boolean inField = line.matches(" {8}private final \\w+\\[\\] \\w+ = new \\w+\\[.*\\];");
+                boolean inConstructor = line.matches(" {8}\\w+ = new \\w+(\\(.*\\)|\\[.*\\]);");
+                isTrue("made with the object:" + line, inField || inConstructor);
+            }
         }
     }
 
@@ -85,7 +104,8 @@ public final class LanguageTest {
     private static void wordsThatAreRuledOut(String text) {
         String[] words = {"throw", "throws", "try", "catch", "synchronized", "assert", "package", "var",
             "protected", "Object", "Random", "Thread", "System.out", "System.err", "System.nanoTime",
-            "System.currentTimeMillis", "Exception", "Error", "yield", "native", "volatile", "goto"};
+            "System.currentTimeMillis", "Exception", "Error", "yield", "native", "volatile", "goto",
+            "String", "equals", "hashCode", "toString", "instanceof", "double", "float", "List"};
         for (String word : words) {
             Matcher matcher = Pattern.compile("\\b" + Pattern.quote(word) + "\\b").matcher(text);
             isTrue("no " + word, !matcher.find());
@@ -124,6 +144,6 @@ public final class LanguageTest {
     }
 
     private static void isTrue(String what, boolean is) {
-        Check.due(what, is ? 1 : 0, 1);
+        Check.isTrue(what, is);
     }
 }

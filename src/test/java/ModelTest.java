@@ -2,7 +2,7 @@ import java.util.Random;
 
 /** Runs of calls drawn from seeds, on the class and on the model of the document. */
 public final class ModelTest {
-    private static final int RUNS = 1200;
+    private static final int RUNS = 800;
     private static final int HELD_BACK = 110;
 
     private final Both both = new Both();
@@ -14,7 +14,7 @@ public final class ModelTest {
     private ModelTest(int seed) {
         random = new Random(seed);
         keys = new int[] {3, 9, 40, 300}[random.nextInt(4)];
-        valueMode = random.nextInt(5);
+        valueMode = random.nextInt(6);
         weights = new int[] {40, 6, 3, 5, 3, 3, 3, 2, 2, 2, 2};
         for (int i = 1; i < weights.length; i++) {
             weights[i] = random.nextInt(2 * weights[i] + 1);
@@ -43,12 +43,14 @@ public final class ModelTest {
             }
         }
         System.out.println(RUNS + " runs agree with the model");
-        Check.end();
     }
 
     /** Each step makes fewer calls than are held back, so that no run goes beyond the 512th call. */
     private boolean run() {
         int nextLook = random.nextInt(200);
+        if (random.nextInt(3) == 0) {
+            crowd();
+        }
         while (both.program.left() > HELD_BACK && both.wrong == 0) {
             step();
             if (Run.MOST_CALLS - both.program.left() > nextLook) {
@@ -58,8 +60,27 @@ public final class ModelTest {
         }
         both.start();
         both.compareAll();
-        both.compareDisk();
+        both.compareDisk(random.nextInt(1000));
         return both.wrong == 0;
+    }
+
+    /** Many small records, and CLEANINGS that leave few segments FREE. */
+    private void crowd() {
+        int puts = 40 + random.nextInt(110);
+        for (int i = 0; i < puts; i++) {
+            both.put(random.nextInt(8) == 0 ? random.nextInt(keys) : i % 300);
+            if (random.nextInt(20) == 0) {
+                both.tick(random.nextInt(3));
+            }
+        }
+        int n = 1 + random.nextInt(3);
+        int left = random.nextInt(4);
+        for (int i = 0; i < 60 && both.program.told(4) > left; i++) {
+            both.clean(random.nextInt(4) == 0 ? 1 : n);
+        }
+        for (int i = random.nextInt(4); i > 0; i--) {
+            both.clean(1 + random.nextInt(8));
+        }
     }
 
     private int pick() {
@@ -172,7 +193,9 @@ public final class ModelTest {
 
     private void putOne() {
         int length = valueLength();
-        both.feed(0, 0);
+        if (both.model.hasAValueAtHand() || random.nextInt(20) == 0) {
+            both.feed(0, 0);
+        }
         while (length > 0) {
             int n = Math.min(length, 8);
             both.feed(random.nextLong(), n);
@@ -186,7 +209,7 @@ public final class ModelTest {
     }
 
     private int valueLength() {
-        int mode = valueMode == 4 ? random.nextInt(4) : valueMode;
+        int mode = valueMode == 4 ? random.nextInt(6) : valueMode;
         int place = Math.max(10, both.program.told(3));
         switch (mode) {
             case 0:
@@ -195,6 +218,10 @@ public final class ModelTest {
                 return random.nextInt(101);
             case 2:
                 return 100;
+            case 4:
+                return random.nextInt(8) == 0 ? 8 : 0;
+            case 5:
+                return random.nextInt(3) == 0 ? 16 : 8;
             default:
                 int toSectorsEnd = Math.floorMod(-(place + 16), 64);
                 return toSectorsEnd + (toSectorsEnd < 37 && random.nextBoolean() ? 64 : 0);

@@ -19,6 +19,7 @@ public final class PutRemoveTest {
         putWantsThreeFreeOnes();
         removeWantsThreeFreeOnes();
         whatFitsWantsNoFreeOne();
+        roomIsForTheValueAtHand();
         spentOnesAreNotFree();
         refusesInOrder();
         readsMemoryAndNotTheDisk();
@@ -313,10 +314,24 @@ public final class PutRemoveTest {
         Check.fillTo(x, 200, 992);
         int next = x.told(0);
         Check.due("put that ends at 1008", x.put(201), next);
-        Check.due("remove that ends at 1024", x.remove(201), next + 1);
+        Check.hold(x, 100);
+        Check.due("remove that ends at 1024, whatever is at hand", x.remove(201), next + 1);
         Check.due("told(3)", x.told(3), 1024);
         Check.due("remove then", x.remove(200), -4);
         Check.due("put then", x.put(200), -4);
+    }
+
+    /** Whether a record opens a segment hangs on the value at hand. */
+    private static void roomIsForTheValueAtHand() {
+        Run x = new Run();
+        Check.crowd(x, 2);
+        Check.fillTo(x, 200, 1000);
+        int next = x.told(0);
+        Check.due("put that would end at 1025", Check.put(x, 201, 9), -4);
+        Check.due("put(300) then", x.put(300), -2);
+        Check.due("put that ends at 1024", Check.put(x, 201, 8), next);
+        Check.due("where(201, 1)", x.where(201, 1), 1000);
+        Check.due("told(4)", x.told(4), 2);
     }
 
     private static void spentOnesAreNotFree() {

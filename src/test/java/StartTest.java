@@ -26,6 +26,7 @@ public final class StartTest {
         takesTheNextOrderOnly();
         goesOnFromTheLastSegmentToTheFirst();
         hasZerosBehindThePlace();
+        hasTheSegmentBehindTheOpenOne();
         knowsTheRecordsOfSegments();
         forgetsWhatIsSpent();
         Check.end();
@@ -647,6 +648,37 @@ public final class StartTest {
         Check.due("disk(8, 128)", x.disk(8, 128), 77);
     }
 
+    /** "MEMORY then has the segments as the disk has them": also that behind the OPEN one. */
+    private static void hasTheSegmentBehindTheOpenOne() {
+        Run x = new Run();
+        Check.fillTo(x, 0, 1018);
+        Check.put(x, 20, 50);
+        Check.fillTo(x, 0, 1000);
+        Check.put(x, 21, 8);
+        x.put(0);
+        Check.due("told(2)", x.told(2), 10);
+        Check.due("clean(1)", x.clean(1), 1);
+        x.checkpoint();
+        Check.fillTo(x, 0, 1018);
+        Check.put(x, 22, 90);
+        x.sync();
+        Check.due("told(2)", x.told(2), 8);
+        Check.due("where(20, 0)", x.where(20, 0), 9);
+        x.start();
+        Check.due("told(2)", x.told(2), 8);
+        Check.due("size(20)", x.size(20), 50);
+        Check.due("value(20, 49)", x.value(20, 49), 50);
+        Check.due("size(21)", x.size(21), 8);
+        Check.due("value(21, 7)", x.value(21, 7), 8);
+        Check.due("where(21, 1)", x.where(21, 1), 1000);
+        Check.due("size(22)", x.size(22), 90);
+        Check.due("value(22, 89)", x.value(22, 89), 90);
+        Check.due("segment(9, 3)", x.segment(9, 3), 2);
+        Check.due("clean(8)", x.clean(8), 2);
+        Check.due("value(20, 49) when it is copied", x.value(20, 49), 50);
+        Check.due("value(21, 7)", x.value(21, 7), 8);
+    }
+
     private static void knowsTheRecordsOfSegments() {
         Run x = new Run();
         x.tick(20);
@@ -702,5 +734,13 @@ public final class StartTest {
         x.start();
         Check.due("segment(8, 0): the checkpoint was not done", x.segment(8, 0), 1);
         Check.due("told(4)", x.told(4), 54);
+        Run y = new Run();
+        Check.fillTo(y, 1, 1018);
+        y.put(1);
+        y.clean(1);
+        Check.due("segment(8, 0)", y.segment(8, 0), 3);
+        Check.due("start() when nothing was written", y.start(), 0);
+        Check.due("segment(8, 0): FREE", y.segment(8, 0), 0);
+        Check.due("told(4)", y.told(4), 56);
     }
 }

@@ -125,22 +125,31 @@ final class Both {
             }
         }
         for (int key = -1; key <= 300; key++) {
-            for (int what = 0; what <= 4; what++) {
+            // A key without a value is looked at once: nearly all of them have none.
+            int size = size(key);
+            for (int what = 0; what <= 4 && size >= 0; what++) {
                 where(key, what);
             }
-            int size = size(key);
-            for (int i = -1; i <= Math.max(0, size); i++) {
+            for (int i = -1; i <= size; i++) {
                 value(key, i);
             }
         }
         calls.subList(mark, calls.size()).clear();
     }
 
-    /** Segments in which the model has only 0s are looked at in two octets of each SECTOR. */
-    void compareDisk() {
+    /**
+     * Each look has its price, as objects are used for few calls: some 6000 are spent on the
+     * segments in which something stands, from an octet on that the caller draws.
+     */
+    void compareDisk(int from) {
+        int standing = 0;
         for (int segment = 0; segment < 64; segment++) {
-            int step = model.isClear(segment) ? 37 : 1;
-            for (int i = 0; i < 1024; i += step) {
+            standing += model.isClear(segment) ? 0 : 1;
+        }
+        int step = 1 + standing / 6;
+        for (int segment = 0; segment < 64; segment++) {
+            int stride = model.isClear(segment) ? 61 : step;
+            for (int i = from % stride; i < 1024; i += stride) {
                 int got = program.disk(segment, i);
                 int want = model.disk(segment, i);
                 if (got != want) {

@@ -637,6 +637,10 @@ final class Model {
         return c;
     }
 
+    boolean hasAValueAtHand() {
+        return !hand.isEmpty();
+    }
+
     boolean isClear(int segment) {
         return Arrays.stream(disk[segment]).allMatch(octet -> octet == 0);
     }

@@ -41,7 +41,11 @@ final class Run {
     private void makeAgain() {
         log = new AgedLog();
         for (int i = 0; i < changes.size(); i++) {
-            Check.due("call " + (i + 1) + " made again", changes.get(i).applyAsInt(log), answers.get(i));
+            int answer = changes.get(i).applyAsInt(log);
+            if (answer != answers.get(i)) {
+                throw new IllegalStateException("call " + (i + 1) + " answered " + answers.get(i)
+                    + ", and " + answer + " when it is made again");
+            }
         }
         calls = changes.size();
     }
