@@ -14,6 +14,7 @@ public final class StartTest {
         refusesRegionsWithWrongKeys();
         believesTheOpenSegment();
         dropsKeysWithoutARecord();
+        takesTheEntriesOnly();
         takesKeysAtTheSegmentsEnd();
         takesOnlyRightRecords();
         everyOctetOfARecordCounts();
@@ -395,6 +396,22 @@ public final class StartTest {
         Check.forgeRegion(z, 1, 33 + 22, 1, 1);
         z.start();
         Check.due("where(2, 0): 30 is USED", z.where(2, 0), 30);
+    }
+
+    /** "the INDEX leads as it tells": the ORDER 8 and the 10 keys before them are no entry. */
+    private static void takesTheEntriesOnly() {
+        Run x = new Run();
+        for (int key = 0; key <= 10; key++) {
+            x.put(key);
+        }
+        x.remove(0);
+        x.checkpoint();
+        Check.forgeRegion(x, 0, 17, 4, 8);
+        Check.due("start()", x.start(), 0);
+        Check.due("told(7)", x.told(7), 1);
+        Check.due("told(5)", x.told(5), 10);
+        Check.due("size(0), whose record stood at 10 of segment 8", x.size(0), -1);
+        Check.due("where(10, 1)", x.where(10, 1), 170);
     }
 
     /** A key's record at 1008, the last place: it has to lie within the segment. */
