@@ -17,6 +17,7 @@ public final class CleanTest {
         countsRemovedRecordsForTheAge();
         weighsLifeAgainstAge();
         weighsExactly();
+        isOldAtTheLastClock();
         forgetsTheTimesOfBefore();
         spendsAllOrNone();
         takesTheLeastNumberOfTheSameWorth();
@@ -408,6 +409,24 @@ public final class CleanTest {
             x.clean(1);
             isSpent(third + " thirds more", x, third < 0 ? 9 : 8);
         }
+    }
+
+    /** "a the CLOCK and 1 less the greatest TIME": that is 2^31 for 8, and 2^31 less 1 for 9. */
+    private static void isOldAtTheLastClock() {
+        Run x = new Run();
+        Check.fillTo(x, 0, 1018);
+        x.tick(1);
+        for (int i = 0; i < 64; i++) {
+            x.put(0);
+        }
+        Check.due("segment(8, 2)", x.segment(8, 2), 0);
+        Check.due("segment(9, 2)", x.segment(9, 2), 1);
+        x.checkpoint();
+        Check.forgeRegion(x, 0, 10, 4, Integer.MAX_VALUE);
+        x.start();
+        Check.due("told(1)", x.told(1), Integer.MAX_VALUE);
+        Check.due("clean(1)", x.clean(1), 1);
+        isSpent("the older one", x, 8);
     }
 
     /** A segment that is USED again knows nothing of its records before. */
